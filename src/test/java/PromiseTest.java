@@ -442,6 +442,46 @@ public final class PromiseTest {
         refused(x, NO_ARGUMENT, () -> x.figureOf(0, -1), () -> x.figureOf(0, 5), () -> x.figureOf(1, 5));
     }
 
+    /** Three wires that meet in the cell 0, 0 of one note alone, of 2288. */
+    private static NoteWatermarks meetingOn(int note) {
+        NoteWatermarks x = new NoteWatermarks();
+        x.set(1, 17);
+        x.set(2, 9);
+        int[] circumferences = {11, 13, 16};
+        for (int roll = 0; roll < 3; roll++) {
+            x.size(roll, circumferences[roll]);
+            x.wire(roll, 0, note * 17 % circumferences[roll], 3);
+        }
+        x.figure(0, 0, 0, 1, 1);
+        return x;
+    }
+
+    private static void figureOfFarNotes() {
+        begin("promise 17, far notes");
+        due(99, () -> meetingOn(99).figureOf(0, 3));
+        due(1, () -> meetingOn(99).figureOf(0, 4));
+        due(1009, () -> meetingOn(100).contrast(0, 100));
+        due(-1, () -> meetingOn(100).figureOf(0, 3));
+        due(0, () -> meetingOn(100).figureOf(0, 4));
+        due(0.0, () -> meetingOn(10).goodness());
+        due(0.1, () -> meetingOn(9).goodness());
+    }
+
+    /** A cell of other ink in each corner and side of the frame uncovers, one farther off does not. */
+    private static void figureOfFrames() {
+        begin("promise 17, frames");
+        for (int row = 0; row < 6; row++) {
+            for (int column = 0; column < 12; column++) {
+                NoteWatermarks x = new NoteWatermarks();
+                x.figure(0, 2, 3, 1, 2);
+                x.ink(row, column, 1, 1, 1);
+                boolean isNear = row >= 1 && row <= 3 && column >= 2 && column <= 5;
+                due(isNear ? 0 : 1, () -> x.figureOf(0, 2));
+                due(isNear ? 0 : 1, () -> x.count(1));
+            }
+        }
+    }
+
     private static void contrast() {
         begin("promise 18");
         NoteWatermarks x = everySecondNote();
@@ -463,6 +503,16 @@ public final class PromiseTest {
         x.set(2, 1);
         due(-1, () -> x.figureOf(1, 3));
         due(-1, () -> x.contrast(2, 0));
+        NoteWatermarks thin = new NoteWatermarks();
+        thin.wire(0, 2, 2, -2);
+        thin.wire(0, 2, 3, -1);
+        thin.figure(0, 2, 2, 1, 1);
+        thin.figure(1, 2, 2, 2, 3);
+        due(998, () -> thin.contrast(0, 0));
+        due(0, () -> thin.figureOf(0, 3));
+        due(999, () -> thin.contrast(1, 0));
+        thin.wire(0, 2, 3, 1);
+        due(997, () -> thin.contrast(0, 0));
         refused(x, NO_PLACE, () -> x.contrast(-1, 0), () -> x.contrast(4, 0), () -> x.contrast(0, -1),
                 () -> x.contrast(0, 1000), () -> x.contrast(2, 1000), () -> x.contrast(LEAST, MOST));
     }
@@ -494,6 +544,21 @@ public final class PromiseTest {
         x.turn(0, 4);
         due(0, () -> x.count(2));
         refused(x, NO_ARGUMENT, () -> x.count(-1), () -> x.count(9), () -> x.count(MOST));
+    }
+
+    private static void countOfOtherNotes() {
+        NoteWatermarks x = begin("promise 19, other notes");
+        x.size(0, 16);
+        x.wire(0, 0, 0, 3);
+        due(24, () -> x.count(4));
+        due(13, () -> x.count(7));
+        x.turn(0, 4);
+        due(10, () -> x.count(7));
+        x.wire(0, 0, 0, -3);
+        due(10, () -> x.count(6));
+        x.turn(0, -4);
+        due(7, () -> x.count(6));
+        due(10, () -> x.count(7));
     }
 
     private static void countOfFullRows() {
@@ -539,6 +604,10 @@ public final class PromiseTest {
         due(0, () -> x.bestPhase(1, 0));
         x.set(0, 3);
         due(6, () -> x.bestPhase(0, 0));
+        x.size(0, 16);
+        due(6, () -> x.bestPhase(0, 0));
+        x.set(1, 13);
+        due(6, () -> x.bestPhase(0, 0));
         refused(x, NO_PLACE, () -> x.bestPhase(-1, 0), () -> x.bestPhase(3, 0),
                 () -> x.bestPhase(0, -1), () -> x.bestPhase(0, 4));
         due(6, () -> x.count(8));
@@ -561,6 +630,13 @@ public final class PromiseTest {
         x.size(1, 15);
         x.size(2, 13);
         due(30, x::bestPitch);
+        x.size(0, 13);
+        x.size(1, 13);
+        due(13, x::bestPitch);
+        x.size(0, 11);
+        x.size(1, 11);
+        x.size(2, 11);
+        due(22, x::bestPitch);
         due(6, () -> x.count(8));
     }
 
@@ -582,9 +658,14 @@ public final class PromiseTest {
         due(5, () -> x.standsOut(1, 1, 0));
         due(11, () -> x.standsOut(1, 1, 1));
         due(9, () -> x.standsOut(1, 1, 2));
+        due(4, () -> x.count(8));
+        x.size(0, 16);
+        x.turn(0, 4);
+        x.ink(0, 0, 6, 12, 0);
+        due(1, () -> x.standsOut(1, 1, 0));
+        due(3, () -> x.standsOut(1, 1, 1));
         due(0, () -> x.standsOut(6, 12, 2));
         due(0, () -> x.standsOut(6, 12, 0));
-        due(4, () -> x.count(8));
         refused(x, NO_ARGUMENT, () -> x.standsOut(0, 1, 0), () -> x.standsOut(7, 1, 0),
                 () -> x.standsOut(1, 0, 0), () -> x.standsOut(1, 13, 0), () -> x.standsOut(1, 1, -1),
                 () -> x.standsOut(1, 1, 3), () -> x.standsOut(MOST, LEAST, 0));
@@ -697,8 +778,11 @@ public final class PromiseTest {
         roll();
         cell();
         figureOf();
+        figureOfFarNotes();
+        figureOfFrames();
         contrast();
         count();
+        countOfOtherNotes();
         countOfFullRows();
         setting();
         bestPhase();
