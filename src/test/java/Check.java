@@ -5,6 +5,9 @@ final class Check {
         Number answer();
     }
 
+    /** A broken promise may show a million times; so many are enough to read. */
+    private static final int MOST_PRINTED = 40;
+
     private int done = 0;
     private int wrong = 0;
 
@@ -25,7 +28,9 @@ final class Check {
         done++;
         if (!got.equals(String.valueOf(want))) {
             wrong++;
-            System.out.println(told + ": answered " + got + ", due is " + want);
+            if (wrong <= MOST_PRINTED) {
+                System.out.println(told + ": answered " + got + ", due is " + want);
+            }
         }
     }
 

@@ -10,6 +10,7 @@ import java.util.Arrays;
 import java.util.List;
 import java.util.Set;
 import java.util.TreeSet;
+import java.util.regex.Pattern;
 import java.util.stream.Collectors;
 
 /** That the class has the face of the document and no other, and keeps to what LANGUAGE.md leaves. */
@@ -40,10 +41,10 @@ public final class FaceTest {
             "double goodness()",
             "long digest()");
 
-    /** Words that the part of Java that LANGUAGE.md leaves has no use for here. */
-    private static final List<String> RULED_OUT = List.of("import ", "package ", "->", "::", "try ", "catch",
-            "finally", "synchronized", "assert ", "Exact(", "Double.", "Math.sqrt", "System.out", "System.err",
-            "currentTimeMillis", "nanoTime", "Random", "Thread", "printStackTrace", " native ", " volatile ");
+    /** Words that the part of Java that LANGUAGE.md leaves never needs. */
+    private static final List<String> RULED_OUT = List.of("package", "finally", "synchronized", "assert", "native",
+            "volatile", "transient", "System.out", "System.err", "System.in", "Thread", "nanoTime",
+            "currentTimeMillis", "addExact", "multiplyExact", "printStackTrace", "getMessage");
 
     private static String names(Class<?>[] types) {
         return Arrays.stream(types).map(Class::getSimpleName).collect(Collectors.joining(", "));
@@ -59,26 +60,28 @@ public final class FaceTest {
         Set<String> own = new TreeSet<>();
         Set<String> publicNames = new TreeSet<>();
         for (Method method : NoteWatermarks.class.getDeclaredMethods()) {
-            if (!Modifier.isPrivate(method.getModifiers())) {
+            if (!Modifier.isPrivate(method.getModifiers()) && !method.isSynthetic()) {
                 own.add(told(method));
                 publicNames.add(method.getName());
-                check.dueThat(method + " is public", method.getModifiers() == Modifier.PUBLIC);
+                check.dueThat(method + " is public", Modifier.isPublic(method.getModifiers()));
             }
         }
         check.due("methods", new TreeSet<>(FACE), own.toString());
-        noPrivateNamesake(check, NoteWatermarks.class, publicNames);
+        for (Method method : NoteWatermarks.class.getDeclaredMethods()) {
+            boolean isPrivate = Modifier.isPrivate(method.getModifiers());
+            check.dueThat(method + " has a name of its own", !isPrivate || !publicNames.contains(method.getName()));
+        }
         for (Class<?> inside : NoteWatermarks.class.getDeclaredClasses()) {
-            noPrivateNamesake(check, inside, publicNames);
-            check.dueThat(inside + " is static", Modifier.isStatic(inside.getModifiers()));
             check.dueThat(inside + " is not public", !Modifier.isPublic(inside.getModifiers()));
         }
     }
 
-    private static void noPrivateNamesake(Check check, Class<?> where, Set<String> publicNames) {
+    private static void parameters(Check check, Class<?> where) {
         for (Method method : where.getDeclaredMethods()) {
-            boolean isPrivate = Modifier.isPrivate(method.getModifiers());
-            check.dueThat(method + " has a name of its own", !isPrivate || !publicNames.contains(method.getName()));
             check.dueThat(method + " takes at most seven parameters", method.getParameterCount() <= 7);
+        }
+        for (Class<?> inside : where.getDeclaredClasses()) {
+            parameters(check, inside);
         }
     }
 
@@ -86,27 +89,44 @@ public final class FaceTest {
         for (Field field : NoteWatermarks.class.getDeclaredFields()) {
             int modifiers = field.getModifiers();
             check.dueThat(field + " is private or NONE",
-                    Modifier.isPrivate(modifiers) || field.getName().equals("NONE"));
-            check.dueThat(field + " is final", Modifier.isFinal(modifiers));
+                    Modifier.isPrivate(modifiers) || field.isSynthetic() || field.getName().equals("NONE"));
+            check.dueThat(field + " is final, if static", !Modifier.isStatic(modifiers) || Modifier.isFinal(modifiers));
         }
         check.due("NONE", -1, () -> NoteWatermarks.NONE);
     }
 
-    private static void source(Check check, Path path) throws IOException {
-        String source = Files.readString(path, StandardCharsets.US_ASCII);
-        for (String word : RULED_OUT) {
-            check.dueThat("no '" + word.trim() + "' in the source", !source.contains(word));
+    private static void constructors(Check check) {
+        int open = 0;
+        for (Constructor<?> constructor : NoteWatermarks.class.getDeclaredConstructors()) {
+            boolean isPublic = Modifier.isPublic(constructor.getModifiers());
+            check.dueThat(constructor + " is public or private",
+                    isPublic || Modifier.isPrivate(constructor.getModifiers()) || constructor.isSynthetic());
+            check.dueThat(constructor + " takes nothing", !isPublic || constructor.getParameterCount() == 0);
+            open += isPublic ? 1 : 0;
         }
+        check.due("public constructors", 1, String.valueOf(open));
+    }
+
+    /** Comments and written texts may say what they like. */
+    private static void source(Check check, Path path) throws IOException {
+        String code = Files.readString(path, StandardCharsets.UTF_8)
+                .replaceAll("(?s)/\\*.*?\\*/", " ").replaceAll("\"[^\"\n]*\"", " ").replaceAll("//[^\n]*", " ");
+        for (String word : RULED_OUT) {
+            boolean isThere = Pattern.compile("\\b" + Pattern.quote(word) + "\\b").matcher(code).find();
+            check.dueThat("no '" + word + "' in the source", !isThere);
+        }
+        check.dueThat("the source is read", code.contains("class NoteWatermarks"));
     }
 
     public static void main(String[] args) throws IOException {
         Check check = new Check();
-        check.due("class", Modifier.PUBLIC | Modifier.FINAL, () -> NoteWatermarks.class.getModifiers());
-        Constructor<?>[] constructors = NoteWatermarks.class.getDeclaredConstructors();
-        check.due("constructors", "[public NoteWatermarks()]", Arrays.toString(constructors));
+        int kind = Modifier.PUBLIC | Modifier.FINAL;
+        check.due("class", kind, () -> NoteWatermarks.class.getModifiers() & (kind | Modifier.ABSTRACT));
+        constructors(check);
         methods(check);
+        parameters(check, NoteWatermarks.class);
         fields(check);
-        source(check, Path.of(args[0]));
+        source(check, Path.of(args.length > 0 ? args[0] : "src/main/java/NoteWatermarks.java"));
         check.end();
     }
 }

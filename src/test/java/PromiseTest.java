@@ -1,50 +1,13 @@
 /** For each promise of the document: ordinary inputs, its edges, and wrong inputs. */
-public final class PromiseTest {
-    private static final String NO_PLACE = "throws.IndexOutOfBoundsException";
-    private static final String NO_ARGUMENT = "throws.IllegalArgumentException";
-    private static final String NO_STATE = "throws.IllegalStateException";
-    private static final int LEAST = Integer.MIN_VALUE;
-    private static final int MOST = Integer.MAX_VALUE;
+public final class PromiseTest extends Sentences {
 
-    private static final Check CHECK = new Check();
-    private static String promise = "";
-
-    private static void due(Object want, Check.Call call) {
-        int line = StackWalker.getInstance()
-                .walk(frames -> frames.skip(1).findFirst().get().getLineNumber());
-        CHECK.due(promise + " (line " + line + ")", want, call);
-    }
-
-    private static NoteWatermarks begin(String told) {
-        promise = told;
+    private static NoteWatermarks begin(String promise) {
+        about(promise);
         return new NoteWatermarks();
     }
 
-    private static void type(NoteWatermarks x, String text) {
-        for (int i = 0; i < text.length(); i++) {
-            x.append(text.charAt(i));
-        }
-    }
-
     private static int firstErrorOf(String text) {
-        NoteWatermarks x = new NoteWatermarks();
-        type(x, text);
-        return x.firstError();
-    }
-
-    private static int bendOf(String text) {
-        NoteWatermarks x = new NoteWatermarks();
-        type(x, text);
-        return x.bend();
-    }
-
-    /** That calls with wrong arguments answer so, and change nothing. */
-    private static void refused(NoteWatermarks x, String want, Check.Call... calls) {
-        long before = x.digest();
-        for (Check.Call call : calls) {
-            due(want, call);
-        }
-        due(before, x::digest);
+        return typed(text).firstError();
     }
 
     private static void newObject() {
@@ -280,7 +243,7 @@ public final class PromiseTest {
         due(98, () -> x.wire(0, 0, 5, 0));
         due(5, x::undo);
         due(4, x::undo);
-        due(1, () -> bendOf("11p+3*9"));
+        due(1, () -> typed("11p+3*9").bend());
         due(100, () -> x.wire(0, 0, 5, 0));
         refused(x, NO_ARGUMENT, x::bend);
         for (String text : new String[] {"0", "00a+", "00a+1;", "00a+1*", "00a+1*1", "00a+1x", ";00a+1",
@@ -337,7 +300,7 @@ public final class PromiseTest {
         for (Check.Call call : calls) {
             long before = x.digest();
             call.answer();
-            CHECK.dueThat(promise + ": the call changes something", x.digest() != before);
+            dueThat(x.digest() != before);
             due(1, x::undo);
             due(before, x::digest);
         }
@@ -732,20 +695,26 @@ public final class PromiseTest {
         return hash;
     }
 
+    private static NoteWatermarks twoFigures(String buffer) {
+        NoteWatermarks x = everySecondNote();
+        x.figure(3, 1, 1, 2, 2);
+        x.figure(2, 3, 4, 3, 2);
+        type(x, buffer);
+        return x;
+    }
+
     private static void digest() {
         NoteWatermarks x = begin("promise 25");
         due(digestOf(x, ""), x::digest);
         type(x, "~!00");
         due(digestOf(x, "~!00"), x::digest);
-        NoteWatermarks y = everySecondNote();
-        y.figure(3, 1, 1, 2, 2);
-        y.figure(2, 3, 4, 3, 2);
-        due(digestOf(y, ""), y::digest);
-        due(digestOf(y, ""), y::digest);
-        y.set(2, 1);
-        y.ink(0, 0, 3, 3, 4);
-        type(y, "q");
-        due(digestOf(y, "q"), y::digest);
+        due(digestOf(twoFigures(""), ""), () -> twoFigures("").digest());
+        due(digestOf(twoFigures("q"), "q"), () -> twoFigures("q").digest());
+        NoteWatermarks inked = twoFigures("");
+        inked.set(2, 1);
+        inked.ink(0, 0, 3, 3, 4);
+        due(digestOf(inked, ""), inked::digest);
+        due(digestOf(inked, ""), inked::digest);
         // All shares that can be: 0 to 10 notes of 0 to 4 figures that are good.
         for (int figures = 1; figures <= 4; figures++) {
             for (int circumference = 4; circumference <= 16; circumference++) {

@@ -4,27 +4,23 @@ import java.util.Random;
  * Long runs of calls, always the same ones, each answered by the program
  * and by the model; what wrong arguments answer is told by ranges here.
  */
-public final class RandomRunTest {
-    private static final int RUNS = 150;
-    private static final int CALLS = 511;
-    private static final int[] FAR = {Integer.MIN_VALUE, -1000, -100, -4, -1, 31, 61, 100, 1000, Integer.MAX_VALUE};
+public final class RandomRunTest extends Sentences {
+    private static final int RUNS = 300;
+    /** The document promises nothing behind them. */
+    private static final int MOST_CALLS = 512;
+    private static final int[] FAR = {LEAST, -1000, -100, -4, -1, 31, 61, 100, 1000, MOST};
 
-    private static final String NO_PLACE = "throws.IndexOutOfBoundsException";
-    private static final String NO_ARGUMENT = "throws.IllegalArgumentException";
-    private static final String NO_STATE = "throws.IllegalStateException";
-
-    private final Check check;
     private final Random random;
-    private final String told;
+    private final int run;
     private final NoteWatermarks x = new NoteWatermarks();
     private final Model model = new Model();
     private String refusal;
     private String pending = "";
+    private int calls = 0;
 
-    private RandomRunTest(Check check, int run) {
-        this.check = check;
+    private RandomRunTest(int run) {
         this.random = new Random(run);
-        this.told = "run " + run;
+        this.run = run;
     }
 
     /** An argument, mostly in its range; the first wrong one by the order of the throws clause counts. */
@@ -55,9 +51,13 @@ public final class RandomRunTest {
         return number(1, from >= 0 && from < all ? all - from : all);
     }
 
-    private void due(String call, Check.Call program, Check.Call modelled) {
-        String want = refusal != null ? refusal : Check.outcome(modelled);
-        check.due(told + ": " + call, want, program);
+    /** One call more, unless the object has had its last one. */
+    private void both(String call, Check.Call program, Check.Call modelled) {
+        if (calls < MOST_CALLS) {
+            calls++;
+            about("run " + run + ", call " + calls + ", " + call);
+            due(refusal != null ? refusal : Check.outcome(modelled), program);
+        }
         refusal = null;
     }
 
@@ -69,25 +69,25 @@ public final class RandomRunTest {
                 refusal = null;
                 int which = place(3);
                 int to = number(4, 16);
-                due("size", () -> x.size(which, to), () -> model.size(which, to));
+                both("size", () -> x.size(which, to), () -> model.size(which, to));
             }
             case 1 -> {
                 refusal = null;
                 int which = place(3);
                 int by = number(-99, 99);
-                due("turn", () -> x.turn(which, by), () -> model.turn(which, by));
+                both("turn", () -> x.turn(which, by), () -> model.turn(which, by));
             }
             case 2 -> {
                 refusal = null;
                 if (random.nextInt(6) == 0) {
                     int which = place(3);
-                    due("clear", () -> x.clear(which), () -> model.clear(which));
+                    both("clear", () -> x.clear(which), () -> model.clear(which));
                 }
             }
             default -> {
                 int column = place(16);
                 int height = number(-3, 3);
-                due("wire", () -> x.wire(roll, row, column, height), () -> model.wire(roll, row, column, height));
+                both("wire", () -> x.wire(roll, row, column, height), () -> model.wire(roll, row, column, height));
             }
         }
     }
@@ -97,10 +97,10 @@ public final class RandomRunTest {
         if (which < 2) {
             int setting = place(3);
             int value = setting == 0 ? number(0, 99) : setting == 1 ? number(12, 30) : number(1, 9);
-            due("set", () -> x.set(setting, value), () -> model.set(setting, value));
+            both("set", () -> x.set(setting, value), () -> model.set(setting, value));
         } else if (which == 2) {
             int figure = place(4);
-            due("drop", () -> x.drop(figure), () -> model.drop(figure));
+            both("drop", () -> x.drop(figure), () -> model.drop(figure));
         } else if (which == 3) {
             boolean isWhole = random.nextInt(3) > 0;
             int row = isWhole ? 0 : place(6);
@@ -108,14 +108,14 @@ public final class RandomRunTest {
             int rows = isWhole ? 6 : extent(row, 6);
             int columns = isWhole ? 12 : extent(column, 12);
             int ink = number(0, 9);
-            due("ink", () -> x.ink(row, column, rows, columns, ink), () -> model.ink(row, column, rows, columns, ink));
+            both("ink", () -> x.ink(row, column, rows, columns, ink), () -> model.ink(row, column, rows, columns, ink));
         } else {
             int figure = place(4);
             int row = place(6);
             int column = place(12);
             int rows = extent(row, 6);
             int columns = random.nextInt(3) == 0 ? extent(column, 12) : 1;
-            due("figure", () -> x.figure(figure, row, column, rows, columns),
+            both("figure", () -> x.figure(figure, row, column, rows, columns),
                     () -> model.figure(figure, row, column, rows, columns));
         }
     }
@@ -148,29 +148,29 @@ public final class RandomRunTest {
         if (code < 33 || code > 126) {
             refusal = NO_ARGUMENT;
         }
-        due("append " + code, () -> x.append(code), () -> model.append(code));
+        both("append " + code, () -> x.append(code), () -> model.append(code));
     }
 
     private void texts() {
         int which = random.nextInt(60);
         if (which == 0) {
-            due("clearBuffer", x::clearBuffer, model::clearBuffer);
+            both("clearBuffer", x::clearBuffer, model::clearBuffer);
         } else if (which < 4) {
-            due("firstError", x::firstError, model::firstError);
+            both("firstError", x::firstError, model::firstError);
         } else if (which < 6) {
             refuseUnless(model.isComplete(), NO_ARGUMENT);
-            due("bend", x::bend, model::bend);
+            both("bend", x::bend, model::bend);
         } else {
             for (int times = pending.length() + 1; times > 0; times--) {
                 append();
             }
             if (random.nextInt(3) == 0) {
-                due("firstError", x::firstError, model::firstError);
+                both("firstError", x::firstError, model::firstError);
                 refuseUnless(model.isComplete(), NO_ARGUMENT);
-                due("bend", x::bend, model::bend);
+                both("bend", x::bend, model::bend);
             }
             if (random.nextInt(3) == 0) {
-                due("clearBuffer", x::clearBuffer, model::clearBuffer);
+                both("clearBuffer", x::clearBuffer, model::clearBuffer);
             }
         }
     }
@@ -180,32 +180,32 @@ public final class RandomRunTest {
             case 0 -> {
                 int roll = place(3);
                 int what = number(0, 4);
-                due("roll", () -> x.roll(roll, what), () -> model.roll(roll, what));
+                both("roll", () -> x.roll(roll, what), () -> model.roll(roll, what));
             }
             case 1 -> {
                 int note = place(1000);
                 int row = place(6);
                 int column = place(12);
                 int what = number(0, 3);
-                due("cell", () -> x.cell(note, row, column, what), () -> model.cell(note, row, column, what));
+                both("cell", () -> x.cell(note, row, column, what), () -> model.cell(note, row, column, what));
             }
             case 2 -> {
                 int figure = place(4);
                 int what = number(0, 4);
-                due("figureOf", () -> x.figureOf(figure, what), () -> model.figureOf(figure, what));
+                both("figureOf", () -> x.figureOf(figure, what), () -> model.figureOf(figure, what));
             }
             case 3 -> {
                 int figure = place(4);
                 int note = place(1000);
-                due("contrast", () -> x.contrast(figure, note), () -> model.contrast(figure, note));
+                both("contrast", () -> x.contrast(figure, note), () -> model.contrast(figure, note));
             }
             case 4 -> {
                 int what = number(0, 8);
-                due("count", () -> x.count(what), () -> model.count(what));
+                both("count", () -> x.count(what), () -> model.count(what));
             }
             default -> {
                 int setting = place(3);
-                due("setting", () -> x.setting(setting), () -> model.setting(setting));
+                both("setting", () -> x.setting(setting), () -> model.setting(setting));
             }
         }
     }
@@ -215,50 +215,49 @@ public final class RandomRunTest {
             case 0 -> {
                 int roll = place(3);
                 int figure = place(4);
-                due("bestPhase", () -> x.bestPhase(roll, figure), () -> model.bestPhase(roll, figure));
+                both("bestPhase", () -> x.bestPhase(roll, figure), () -> model.bestPhase(roll, figure));
             }
-            case 1 -> due("bestPitch", x::bestPitch, model::bestPitch);
+            case 1 -> both("bestPitch", x::bestPitch, model::bestPitch);
             case 2 -> {
                 int rows = number(1, 6);
                 int columns = number(1, 12);
                 int what = number(0, 2);
-                due("standsOut", () -> x.standsOut(rows, columns, what), () -> model.standsOut(rows, columns, what));
+                both("standsOut", () -> x.standsOut(rows, columns, what), () -> model.standsOut(rows, columns, what));
             }
-            case 3 -> due("goodness", x::goodness, model::goodness);
+            case 3 -> both("goodness", x::goodness, model::goodness);
             default -> {
                 if (random.nextInt(4) == 0) {
-                    due("digest", x::digest, model::digest);
+                    both("digest", x::digest, model::digest);
                 }
             }
         }
     }
 
     private void run() {
-        for (int call = 0; call < CALLS; call++) {
-            int which = random.nextInt(20);
-            if (which < 6) {
+        while (calls < MOST_CALLS - 1) {
+            int which = random.nextInt(80);
+            if (which < 25) {
                 rolls();
-            } else if (which < 11) {
+            } else if (which < 45) {
                 notes();
-            } else if (which < 13) {
+            } else if (which < 47) {
                 texts();
-            } else if (which < 14) {
+            } else if (which < 52) {
                 refuseUnless(model.hasSaved(), NO_STATE);
-                due("undo", x::undo, model::undo);
-            } else if (which < 18) {
+                both("undo", x::undo, model::undo);
+            } else if (which < 70) {
                 looks();
             } else {
                 wouldBe();
             }
         }
-        due("digest", x::digest, model::digest);
+        both("digest", x::digest, model::digest);
     }
 
     public static void main(String[] args) {
-        Check check = new Check();
-        for (int run = 0; run < RUNS && check.wrong() < 20; run++) {
-            new RandomRunTest(check, run).run();
+        for (int run = 0; run < RUNS && CHECK.wrong() < 20; run++) {
+            new RandomRunTest(run).run();
         }
-        check.end();
+        CHECK.end();
     }
 }
