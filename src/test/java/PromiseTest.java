@@ -715,16 +715,36 @@ public final class PromiseTest extends Sentences {
         inked.ink(0, 0, 3, 3, 4);
         due(digestOf(inked, ""), inked::digest);
         due(digestOf(inked, ""), inked::digest);
-        // All shares that can be: 0 to 10 notes of 0 to 4 figures that are good.
-        for (int figures = 1; figures <= 4; figures++) {
-            for (int circumference = 4; circumference <= 16; circumference++) {
-                NoteWatermarks z = new NoteWatermarks();
-                z.size(0, circumference);
-                z.wire(0, 1, 1, 3);
-                for (int figure = 0; figure < figures; figure++) {
-                    z.figure(figure, 1, 1 + figure / 2, 1, 1);
-                }
-                due(digestOf(z, ""), z::digest);
+    }
+
+    /**
+     * Figures that are good on so many of the notes 0 to 9: the first one in
+     * the row 1, the second one in the row 4, all others as the first one.
+     */
+    private static NoteWatermarks goodOn(int first, int second, int figures) {
+        NoteWatermarks x = new NoteWatermarks();
+        x.size(0, 11);
+        for (int note = 0; note < 10; note++) {
+            x.wire(0, 1, (note + 2) % 11, note < first ? 3 : 0);
+            x.wire(0, 4, (note + 2) % 11, note < second ? 3 : 0);
+        }
+        for (int figure = 0; figure < figures; figure++) {
+            x.figure(figure, figure == 1 ? 4 : 1, 2, 1, 1);
+        }
+        return x;
+    }
+
+    private static void eachShare() {
+        about("promise 24 and the bits of promise 25, each share that can be");
+        for (int number = 1; number <= 4; number++) {
+            int figures = number;
+            for (int g = 0; g <= 10 * number; g++) {
+                int good = g;
+                int first = number == 1 ? g : Math.min(10, g / (number - 1));
+                int second = number == 1 ? 0 : g - first * (number - 1);
+                NoteWatermarks x = goodOn(first, second, number);
+                due(good / (10.0 * figures), x::goodness);
+                due(digestOf(x, ""), x::digest);
             }
         }
     }
@@ -759,6 +779,7 @@ public final class PromiseTest extends Sentences {
         standsOut();
         goodness();
         digest();
+        eachShare();
         CHECK.end();
     }
 }
